@@ -41,8 +41,8 @@ public final class MeterRooms {
     private static final int BEGINS_DEFROST = 5;
     private static final int PUTS_DEFROST_OFF = 6;
     private static final int NOTHING = 7;
+    private static final int NOT_THERE = 8;
 
-    private final Text text;
     private final Reader reader;
     private final State fresh;
     private final State present;
@@ -52,8 +52,7 @@ public final class MeterRooms {
     private final Slot slot1;
 
     public MeterRooms() {
-        text = new Text();
-        reader = new Reader(text);
+        reader = new Reader();
         fresh = new State();
         present = new State();
         trial = new State();
@@ -68,14 +67,14 @@ public final class MeterRooms {
         if (c < 0 || c > 255) {
             throw new IllegalArgumentException("c is not 0 to 255");
         }
-        if (text.isFull()) {
+        if (reader.text.isFull()) {
             throw new IllegalStateException("the text is full");
         }
-        return text.lengthen(c);
+        return reader.text.lengthen(c);
     }
 
     public int clearText() {
-        return text.empty();
+        return reader.text.empty();
     }
 
     public int errorPosition() {
@@ -474,8 +473,8 @@ public final class MeterRooms {
         private int wish;
         private int bound;
 
-        Reader(Text text) {
-            this.text = text;
+        Reader() {
+            text = new Text();
         }
 
         int firstError() {
@@ -710,6 +709,9 @@ public final class MeterRooms {
         }
 
         int planMust() {
+            if (load == 0) {
+                return NOT_THERE;
+            }
             if (defrostLeft > 0) {
                 return IS_DEFROSTED;
             }
@@ -717,10 +719,6 @@ public final class MeterRooms {
                 return MUST_RUN;
             }
             return frost >= MOST_FROST ? MUST_BE_DEFROSTED : NOTHING;
-        }
-
-        boolean beginsDefrost() {
-            return plan == MUST_BE_DEFROSTED || plan == BEGINS_DEFROST;
         }
 
         boolean isHeated() {
@@ -926,31 +924,30 @@ public final class MeterRooms {
         }
 
         void passMinute() {
-            int kilowatts = planMinute();
+            takeUnits(planMinute() + settings.others);
             for (Room room : rooms) {
                 if (room.isThere()) {
-                    countPlan(room);
-                }
-            }
-            takeUnits(kilowatts + settings.others);
-            for (Room room : rooms) {
-                if (room.isThere()) {
+                    beginDefrost(room);
                     room.changeTemperature();
                     room.changeFrost();
-                    warmMinutes += room.isWarm() ? 1 : 0;
+                    countMinute(room);
                 }
             }
             minutes++;
         }
 
-        private void countPlan(Room room) {
-            if (room.beginsDefrost()) {
+        private void beginDefrost(Room room) {
+            if (room.plan == MUST_BE_DEFROSTED || room.plan == BEGINS_DEFROST) {
                 room.defrostLeft = settings.defrostMinutes;
                 begun++;
             }
+        }
+
+        private void countMinute(Room room) {
             room.ran += room.isCooled() ? 1 : 0;
             waited += room.plan == WAITS ? 1 : 0;
             putOff += room.plan == PUTS_DEFROST_OFF ? 1 : 0;
+            warmMinutes += room.isWarm() ? 1 : 0;
         }
 
         private void takeUnits(int taken) {
@@ -990,9 +987,6 @@ public final class MeterRooms {
         private int planMusts() {
             int taken = 0;
             for (Room room : rooms) {
-                if (!room.isThere()) {
-                    continue;
-                }
                 room.plan = room.planMust();
                 if (room.isHeated()) {
                     taken += settings.heater;
@@ -1042,7 +1036,7 @@ public final class MeterRooms {
             int mostAbove = 0;
             for (Room room : rooms) {
                 int above = room.temperature - room.wish;
-                if (room.isThere() && room.plan == NOTHING && above > mostAbove) {
+                if (room.plan == NOTHING && above > mostAbove) {
                     next = room;
                     mostAbove = above;
                 }
@@ -1054,7 +1048,7 @@ public final class MeterRooms {
             Room next = null;
             int mostFrost = settings.frostToDefrost - 1;
             for (Room room : rooms) {
-                if (room.isThere() && room.plan == NOTHING && room.frost > mostFrost) {
+                if (room.plan == NOTHING && room.frost > mostFrost) {
                     next = room;
                     mostFrost = room.frost;
                 }
