@@ -326,6 +326,7 @@ public final class MeterRooms {
         return rest;
     }
 
+    /** Does the command of a group, whose digits are one for its kind, i, and three more; tells if it succeeds. */
     private boolean doGroup(int group) {
         int i = group / 1000 % 10;
         int rest = group % 1000;
@@ -333,6 +334,7 @@ public final class MeterRooms {
             case 1:
                 return (rest == 0 || rest == 100) && trial.moveDoor(i, rest == 100);
             case 2:
+                // A third digit other than 0 makes more minutes than can pass.
                 return i == 0 && trial.passMinutes(rest);
             case 3:
                 return i == 0 && rest == 0 && trial.passMinutes(QUARTER);
@@ -459,7 +461,10 @@ public final class MeterRooms {
 
         /** Returns NONE behind the end, which no rule of a text allows at any place. */
         int signAt(int i) {
-            return i >= 0 && i < length && i < signs.length ? signs[i] : NONE;
+            if (i >= 0 && i < length && i < signs.length) {
+                return signs[i];
+            }
+            return NONE;
         }
     }
 
@@ -971,6 +976,7 @@ public final class MeterRooms {
             if (unitsLeft < 0 || left < 1) {
                 return NONE;
             }
+            // Rounded down, as a kilowatt costs a unit in each of the minutes that are left.
             int spare = unitsLeft / left - settings.others;
             return spare < 0 ? NONE : Math.min(spare, MOST_SPARE);
         }
