@@ -23,8 +23,9 @@ public final class ActionsTest {
             {1, 0, 0}, {1, 0, -1}, {1, 0, 201}, {1, Integer.MAX_VALUE, Integer.MIN_VALUE}, {Integer.MIN_VALUE, 0, 1},
             {1, Integer.MIN_VALUE, 0}, {1, 0, Integer.MAX_VALUE}};
         for (int[] w : wrong) {
-            checks.refused("10: add(" + w[0] + ", " + w[1] + ", " + w[2] + ")", Checks.ARGUMENT, x,
-                    () -> x.add(w[0], w[1], w[2]));
+            MeterRooms y = new MeterRooms();
+            checks.refused("10: add(" + w[0] + ", " + w[1] + ", " + w[2] + ")", Checks.ARGUMENT, y,
+                    () -> y.add(w[0], w[1], w[2]));
         }
         checks.due("10: add(1, -300, -299)", 0, x.add(1, -300, -299));
         checks.due("10: add(50, 199, 200)", 1, x.add(50, 199, 200));
@@ -112,8 +113,9 @@ public final class ActionsTest {
         int[] most = {9999, 14, 99, 50, 100, 30};
         for (int what = 0; what <= 5; what++) {
             int w = what;
-            checks.refused("14: set below, " + w, Checks.ARGUMENT, x, () -> x.set(w, least[w] - 1));
-            checks.refused("14: set above, " + w, Checks.ARGUMENT, x, () -> x.set(w, most[w] + 1));
+            MeterRooms y = new MeterRooms();
+            checks.refused("14: set below, " + w, Checks.ARGUMENT, y, () -> y.set(w, least[w] - 1));
+            checks.refused("14: set above, " + w, Checks.ARGUMENT, y, () -> y.set(w, most[w] + 1));
             checks.due("14: set to the least, " + w, first[w], x.set(w, least[w]));
             checks.due("14: set to the most, " + w, least[w], x.set(w, most[w]));
             checks.due("14: the setting, " + w, most[w], x.setting(w));
@@ -162,23 +164,28 @@ public final class ActionsTest {
     }
 
     private static void undoOfEach() {
+        // What is remembered is seen in another store, as an object is good for 512 calls.
+        MeterRooms twin = busy();
         MeterRooms x = busy();
         String[] before = new String[6];
-        before[0] = Checks.picture(x);
-        x.add(9, 9, 10);
-        before[1] = Checks.picture(x);
-        x.door(0, false);
-        before[2] = Checks.picture(x);
-        x.goods(1, -7);
-        before[3] = Checks.picture(x);
-        x.set(1, 3);
-        before[4] = Checks.picture(x);
-        x.run(60);
-        before[5] = Checks.picture(x);
-        x.door(0, false);
+        for (int k = 0; k < 6; k++) {
+            before[k] = Checks.picture(twin);
+            act(twin, k);
+            act(x, k);
+        }
         for (int k = 5; k >= 0; k--) {
             x.undo();
             checks.same("15: undo of action " + k, before[k], Checks.picture(x));
+        }
+    }
+
+    private static void act(MeterRooms x, int k) {
+        switch (k) {
+            case 0 -> x.add(9, 9, 10);
+            case 1, 5 -> x.door(0, false);
+            case 2 -> x.goods(1, -7);
+            case 3 -> x.set(1, 3);
+            default -> x.run(60);
         }
     }
 

@@ -7,11 +7,17 @@ final class Checks {
     static final Class<IndexOutOfBoundsException> INDEX = IndexOutOfBoundsException.class;
 
     private final String name;
+    private String sentence = "";
     private int made;
     private int wrong;
 
     Checks(String name) {
         this.name = name;
+    }
+
+    /** The checks that follow are of these words of the document; they are printed with each that goes wrong. */
+    void of(String words) {
+        sentence = "\"" + words + "\": ";
     }
 
     void due(String what, long want, long got) {
@@ -22,7 +28,7 @@ final class Checks {
         made++;
         if (!want.equals(got)) {
             wrong++;
-            System.out.println(name + ": " + what + ": due is " + want + ", but it is " + got);
+            System.out.println(name + ": " + sentence + what + ": due is " + want + ", but it is " + got);
         }
     }
 

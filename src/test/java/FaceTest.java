@@ -44,11 +44,39 @@ public final class FaceTest {
         checks.same("the constructors", "[public MeterRooms()]", constructors(face));
         checks.same("the fields", "[public static final int MeterRooms.NONE]", fields(face));
         checks.due("NONE", -1, MeterRooms.NONE);
-        for (Class<?> inside : face.getDeclaredClasses()) {
-            checks.due(inside + " is static", 1, Modifier.isStatic(inside.getModifiers()) ? 1 : 0);
-        }
         checks.due("private methods with a public name", 0, sharedNames(face));
+        int classes = 1;
+        sizes(checks, face);
+        for (Class<?> inside : face.getDeclaredClasses()) {
+            classes++;
+            checks.due(inside + " is static", 1, Modifier.isStatic(inside.getModifiers()) ? 1 : 0);
+            checks.due(inside + " is private", 1, Modifier.isPrivate(inside.getModifiers()) ? 1 : 0);
+            checks.due(inside + " has a public name", 0, publicNames(face, inside));
+            sizes(checks, inside);
+        }
+        checks.due("classes over 12", 0, Math.max(0, classes - 12));
         checks.end();
+    }
+
+    /** LANGUAGE.md, rules 5 and 11: no changing static fields, few fields and parameters. */
+    private static void sizes(Checks checks, Class<?> c) {
+        int fields = 0;
+        for (Field field : c.getDeclaredFields()) {
+            boolean constant = Modifier.isStatic(field.getModifiers());
+            fields += constant ? 0 : 1;
+            checks.due(field + " is final if it is static", constant ? 1 : 0,
+                    constant && Modifier.isFinal(field.getModifiers()) ? 1 : 0);
+        }
+        checks.due(c + " has fields over 20", 0, Math.max(0, fields - 20));
+        for (Method method : c.getDeclaredMethods()) {
+            checks.due(method + " has parameters over 7", 0, Math.max(0, method.getParameterCount() - 7));
+        }
+    }
+
+    private static long publicNames(Class<?> face, Class<?> inside) {
+        Set<String> names = Arrays.stream(face.getDeclaredMethods()).filter(FaceTest::isSeen)
+                .map(Method::getName).collect(Collectors.toSet());
+        return Arrays.stream(inside.getDeclaredMethods()).filter(m -> names.contains(m.getName())).count();
     }
 
     private static boolean isSeen(Member member) {

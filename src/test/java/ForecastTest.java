@@ -1,3 +1,5 @@
+import java.util.function.ToIntFunction;
+
 /** Promises 16 to 20: spare, warmIn, coming, leastLimit, bestShut. */
 public final class ForecastTest {
     private static final Checks checks = new Checks("ForecastTest");
@@ -268,25 +270,28 @@ public final class ForecastTest {
     }
 
     private static void nothingChanges() {
+        unchanged("16: spare", MeterRooms::spare);
+        unchanged("17: warmIn", x -> x.warmIn(0));
+        for (int what = 0; what <= 4; what++) {
+            int w = what;
+            unchanged("18: coming", x -> x.coming(100, w));
+        }
+        unchanged("19: leastLimit", x -> x.leastLimit(60));
+        unchanged("20: bestShut", MeterRooms::bestShut);
+        unchanged("8: does", x -> x.does(1));
+        for (int what = 0; what <= 10; what++) {
+            int w = what;
+            unchanged("6: about", x -> x.about(w));
+        }
+    }
+
+    private static void unchanged(String what, ToIntFunction<MeterRooms> question) {
         MeterRooms x = Checks.withText("Mr20-200-150r30+020+060r10+100+140l0200o0o2m60l0700m60l0100m40");
         x.load();
         String before = Checks.picture(x);
-        x.spare();
-        checks.same("16: changes nothing", before, Checks.picture(x));
-        x.warmIn(0);
-        checks.same("17: changes nothing", before, Checks.picture(x));
-        for (int what = 0; what <= 4; what++) {
-            x.coming(100, what);
-            checks.same("18: changes nothing", before, Checks.picture(x));
-        }
-        x.leastLimit(60);
-        checks.same("19: changes nothing", before, Checks.picture(x));
-        x.bestShut();
-        checks.same("20: changes nothing", before, Checks.picture(x));
-        for (int what = 0; what <= 10; what++) {
-            x.about(what);
-        }
-        checks.same("6: changes nothing", before, Checks.picture(x));
-        checks.refused("16 to 20: are no actions", Checks.STATE, x, x::undo);
+        int answer = question.applyAsInt(x);
+        checks.same(what + " changes nothing", before, Checks.picture(x));
+        checks.due(what + " again", answer, question.applyAsInt(x));
+        checks.refused(what + " is no action", Checks.STATE, x, x::undo);
     }
 }

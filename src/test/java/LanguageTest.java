@@ -2,6 +2,9 @@ import java.io.IOException;
 import java.nio.file.Files;
 import java.nio.file.Path;
 import java.util.List;
+import java.util.Set;
+import java.util.TreeSet;
+import java.util.regex.MatchResult;
 import java.util.regex.Pattern;
 
 /** Some rules of ../shared/LANGUAGE.md that can be seen from the program's lines. */
@@ -14,6 +17,11 @@ public final class LanguageTest {
         "\\bequals\\b", "\\bhashCode\\b", "\\btoString\\b", "\\bprotected\\b", "\"\\s*\\+", "\\+\\s*\"",
     };
 
+    /** All names with a great first letter that the program uses: its own classes, and what the rules allow. */
+    private static final Set<String> NAMES = Set.of("MeterRooms", "Text", "Reader", "Settings", "Room", "State",
+            "Memory", "Slot", "Math", "IllegalArgumentException", "IllegalStateException",
+            "IndexOutOfBoundsException");
+
     private static final int MOST_LINES = 60;
 
     public static void main(String[] args) throws IOException {
@@ -24,6 +32,7 @@ public final class LanguageTest {
         }
         checks.same("exceptions without a written text", "[]",
                 linesWith(lines, "throw (?!new (Illegal(State|Argument)|IndexOutOfBounds)Exception\\(\"[^\"]*\"\\);)"));
+        checks.same("other names", "[]", otherNames(lines));
         checks.same("methods over " + MOST_LINES + " lines", "[]", longMethods(lines));
         checks.end();
     }
@@ -31,6 +40,16 @@ public final class LanguageTest {
     private static String linesWith(List<String> lines, String part) {
         Pattern pattern = Pattern.compile(part);
         return lines.stream().filter(line -> !isComment(line) && pattern.matcher(line).find()).toList().toString();
+    }
+
+    private static String otherNames(List<String> lines) {
+        Set<String> found = new TreeSet<>();
+        for (String line : lines) {
+            String code = isComment(line) ? "" : line.replaceAll("\"[^\"]*\"|//.*", "");
+            Pattern.compile("\\b[A-Z]\\w*[a-z]\\w*").matcher(code).results()
+                    .map(MatchResult::group).filter(name -> !NAMES.contains(name)).forEach(found::add);
+        }
+        return found.toString();
     }
 
     private static boolean isComment(String line) {

@@ -48,23 +48,24 @@ public final class ScriptTest {
     }
 
     private static void wrongScripts() {
-        MeterRooms x = store();
-        checks.refused("21: n is 0", Checks.ARGUMENT, x, () -> x.runScript(0, 0));
-        checks.refused("21: n is 4", Checks.ARGUMENT, x, () -> x.runScript(4, 30000));
-        checks.refused("21: n is -1", Checks.ARGUMENT, x, () -> x.runScript(-1, 30000));
-        checks.refused("21: n is MIN", Checks.ARGUMENT, x, () -> x.runScript(Integer.MIN_VALUE, 0));
-        checks.refused("21: n is MAX", Checks.ARGUMENT, x, () -> x.runScript(Integer.MAX_VALUE, 0));
-        checks.refused("21: script is -1", Checks.ARGUMENT, x, () -> x.runScript(1, -1));
-        checks.refused("21: script is MIN", Checks.ARGUMENT, x, () -> x.runScript(3, Long.MIN_VALUE));
-        checks.refused("21: script is MAX", Checks.ARGUMENT, x, () -> x.runScript(3, Long.MAX_VALUE));
+        for (int n : new int[] {0, 4, -1, Integer.MIN_VALUE, Integer.MAX_VALUE}) {
+            MeterRooms x = store();
+            checks.refused("21: n is " + n, Checks.ARGUMENT, x, () -> x.runScript(n, 30000));
+            checks.refused("21: n is " + n, Checks.ARGUMENT, x, () -> x.runScript(n, 0));
+        }
+        MeterRooms z = store();
+        checks.refused("21: script is -1", Checks.ARGUMENT, z, () -> z.runScript(1, -1));
+        checks.refused("21: script is MIN", Checks.ARGUMENT, z, () -> z.runScript(3, Long.MIN_VALUE));
+        checks.refused("21: script is MAX", Checks.ARGUMENT, z, () -> z.runScript(3, Long.MAX_VALUE));
         long most = 1;
         for (int n = 1; n <= 3; n++) {
+            MeterRooms y = store();
             most *= 100000;
             int k = n;
             long script = most;
-            checks.refused("21: a digit too many for " + n, Checks.ARGUMENT, x, () -> x.runScript(k, script));
-            checks.due("21: the most digits for " + n, 0, x.runScript(n, script - 1));
-            checks.due("21: no digits for " + n, 0, x.runScript(n, 0));
+            checks.refused("21: a digit too many for " + n, Checks.ARGUMENT, y, () -> y.runScript(k, script));
+            checks.due("21: the most digits for " + n, 0, y.runScript(n, script - 1));
+            checks.due("21: no digits for " + n, 0, y.runScript(n, 0));
         }
     }
 
