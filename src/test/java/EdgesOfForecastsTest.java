@@ -241,6 +241,12 @@ public final class EdgesOfForecastsTest {
         checks.due("both wait in the next minute", 2, y.coming(1, 3));
         checks.due("and in the one behind it", 4, y.coming(2, 3));
         checks.due("then one of them must run", 5, y.coming(3, 3));
+        MeterRooms z = new MeterRooms();
+        z.add(20, -100, 0);
+        z.set(0, 0);
+        z.goods(0, -103);
+        checks.due("at its wish behind 3 minutes it does not wait", 0, z.coming(4, 3));
+        checks.due("above it it does", 1, z.coming(5, 3));
     }
 
     private static void comingWithoutRooms() {
